@@ -1779,7 +1779,7 @@ public final class SwornDays {
 
         private int struckBehind(int place, int before, int deed, int struck) {
             int bitsNow = struck;
-            for (int v = 0; v < vowTotal; v++) {
+            for (int v = 0; v < vowTotal && (striking || bitsNow == 0); v++) {
                 int at = v * VOW_CELLS;
                 if ((bitsNow & bits[v]) == 0 && breaks(vows, at, before, deed, done[vows[at + A]],
                         done[vows[at + B]], place == size - 1)) {
