@@ -1688,6 +1688,7 @@ public final class SwornDays {
         private final int[] harms = new int[DEEDS];
         // What a deed is worth by its place, how often it was done ahead, and the deed.
         final int[] worths = new int[LONGEST * LONGEST * DEEDS];
+        // How often each deed stands in the row so far; whoever goes back takes its deed back, so it ends as zeros.
         private final int[] done = new int[DEEDS];
         private int size = 0;
         private int leastHarm = 0;
@@ -1753,9 +1754,6 @@ public final class SwornDays {
             wantedRow = NONE;
             bestRow = NONE;
             bestJoy = 0;
-            for (int deed = 0; deed < DEEDS; deed++) {
-                done[deed] = 0;
-            }
         }
 
         private void descend(int place, int number, int struck, int joy, int harm) {

@@ -106,12 +106,13 @@ public final class LanguageRules {
     private static void source(String path) throws java.io.IOException {
         String text = Files.readString(Path.of(path), StandardCharsets.ISO_8859_1);
         String code = text.replaceAll("(?s)/\\*.*?\\*/", "").replaceAll("//[^\n]*", "");
-        String[] never = {"->", "::", "finally", "Exact", "synchronized", "assert", "double", "float", "catch", "try {",
+        String[] never = {"->", "::", "finally", "Exact", "synchronized", "assert", "double", "float",
             "package", "getMessage", "hashCode", "toString", "while (true)", "for (;;)", "@", "Object", "System.out",
             "instanceof", "String.format", ".values()"};
         for (String word : never) {
             rule("the source without " + word, !code.contains(word));
         }
+        rule("the source without try and catch", !Pattern.compile("\\b(try|catch)\\b").matcher(code).find());
         Matcher imports = Pattern.compile("import ([^;]+);").matcher(code);
         while (imports.find()) {
             rule("rule 4: import " + imports.group(1), Set.of("java.util.NoSuchElementException", "java.util.Arrays",

@@ -39,6 +39,14 @@ public final class TextPromises {
         Check.due("two too much", x.feed(0x61610000, 0, 0, 0, 0), Check.NONE);
         Check.due("what is refused changes nothing", x.count(5), 239);
         Check.due("the last one", x.feed(0, 0, 0, 0, 0x61), 240);
+        for (int k = 0; k < 5; k++) {
+            int[] w = new int[5];
+            w[k] = 0x61006161;
+            x.end(238);
+            Check.due("three too much in word " + k, x.feed(w[0], w[1], w[2], w[3], w[4]), Check.NONE);
+            x.end(237);
+            Check.due("three in word " + k, x.feed(w[0], w[1], w[2], w[3], w[4]), 240);
+        }
     }
 
     private static void end() {
