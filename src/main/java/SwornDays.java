@@ -20,7 +20,6 @@ public final class SwornDays {
     private static final int MOST_DAYS = 60;
     private static final int LONGEST = 5;
     private static final int SENTENCE_LONGEST = 3;
-    private static final int SENTENCE_ROWS = 512;
     private static final int MOST_PROMISES = 240;
 
     // The cells of a vow stand in the order in which vow(..) tells them.
@@ -81,7 +80,6 @@ public final class SwornDays {
     private final Judge judge = new Judge();
     private final Told told = new Told();
     private final Search search = new Search();
-    private final Sentencer sentencer = new Sentencer();
     private int temptedBelow = 0;
 
     public SwornDays() {
@@ -415,12 +413,32 @@ public final class SwornDays {
         if (!isPerson(person) || !isDeed(deed) || l < 1 || l > SENTENCE_LONGEST || what < 0 || what > 1) {
             return HIDDEN;
         }
+        // Every row without the deed keeps "never this deed", so no vow leaves a better one than that; and of those
+        // that leave one as good, the least number is such a vow, of this deed or of a lower one.
         search.weigh(country, tastes, person);
-        sentencer.layOut(l, search.worths);
-        if (!sentencer.choose(deed)) {
-            return HIDDEN;
+        int chosen = NONE;
+        int most = 0;
+        for (int a = 0; a <= deed; a++) {
+            search.clear(country);
+            search.addVow(100 * a);
+            search.run(l, 0, NONE);
+            if (!hasDeed(search.bestRow, l, deed) && (chosen == NONE || search.bestJoy > most)) {
+                chosen = 100 * a;
+                most = search.bestJoy;
+            }
         }
-        return what == 0 ? sentencer.chosen : sentencer.chosenJoy;
+        return what == 0 ? chosen : most;
+    }
+
+    private static boolean hasDeed(int row, int l, int deed) {
+        int rest = row;
+        for (int i = 0; i < l; i++) {
+            if (rest % 10 == deed) {
+                return true;
+            }
+            rest /= 10;
+        }
+        return false;
     }
 
     public int loopholes(int person, int l, int h, int i) {
@@ -715,19 +733,6 @@ public final class SwornDays {
         vows[at + A] = number / 100 % 10;
         vows[at + B] = number / 10 % 10;
         vows[at + N] = number % 10;
-    }
-
-    private static boolean asksForTwoDeeds(int kind) {
-        return kind == NOT_AHEAD || kind == FOLLOWED || kind == NOT_BEHIND;
-    }
-
-    // Vows that differ only in what their kind does not look at are the same: these bounds leave the least of them.
-    private static int lastB(int kind) {
-        return asksForTwoDeeds(kind) ? DEEDS - 1 : 0;
-    }
-
-    private static int lastN(int kind) {
-        return kind == OFTEN || kind == SELDOM ? 3 : 0;
     }
 
     /**
@@ -1635,12 +1640,15 @@ public final class SwornDays {
             }
         }
 
+        // b and n are 0 where the kind does not look at them.
         private void gatherOf(int person, int kind, int a) {
-            for (int b = 0; b <= lastB(kind); b++) {
-                if (asksForTwoDeeds(kind) && a == b) {
+            boolean looksAtB = kind == NOT_AHEAD || kind == FOLLOWED || kind == NOT_BEHIND;
+            boolean looksAtN = kind == OFTEN || kind == SELDOM;
+            for (int b = 0; b < (looksAtB ? DEEDS : 1); b++) {
+                if (looksAtB && a == b) {
                     continue;
                 }
-                for (int n = 0; n <= lastN(kind); n++) {
+                for (int n = 0; n <= (looksAtN ? 3 : 0); n++) {
                     int number = 1000 * kind + 100 * a + 10 * b + n;
                     if (isKeptBySeenDays(person, number) && promises < MOST_PROMISES) {
                         numbers[promises] = number;
@@ -1687,7 +1695,7 @@ public final class SwornDays {
         private int vowTotal = 0;
         private final int[] harms = new int[DEEDS];
         // What a deed is worth by its place, how often it was done ahead, and the deed.
-        final int[] worths = new int[LONGEST * LONGEST * DEEDS];
+        private final int[] worths = new int[LONGEST * LONGEST * DEEDS];
         // How often each deed stands in the row so far; whoever goes back takes its deed back, so it ends as zeros.
         private final int[] done = new int[DEEDS];
         private int size = 0;
@@ -1716,6 +1724,14 @@ public final class SwornDays {
             }
         }
 
+        void addVow(int number) {
+            if (vowTotal < VOWS) {
+                putVow(vows, vowTotal * VOW_CELLS, number);
+                bits[vowTotal] = 1 << vowTotal;
+                vowTotal++;
+            }
+        }
+
         void weigh(Country country, Tastes tastes, int person) {
             for (int place = 0; place < LONGEST; place++) {
                 for (int ahead = 0; ahead <= place; ahead++) {
@@ -1726,7 +1742,7 @@ public final class SwornDays {
             }
         }
 
-        static int worthAt(int place, int ahead, int deed) {
+        private static int worthAt(int place, int ahead, int deed) {
             return (place * LONGEST + ahead) * DEEDS + deed;
         }
 
@@ -1818,77 +1834,6 @@ public final class SwornDays {
                 bestRow = number;
                 bestJoy = held;
             }
-        }
-    }
-
-    /** Finds the vow that keeps a deed out of the best row. */
-    private static final class Sentencer {
-        private final int[] deeds = new int[SENTENCE_ROWS * SENTENCE_LONGEST];
-        private final int[] joys = new int[SENTENCE_ROWS];
-        private final int[] vow = new int[VOW_CELLS];
-        private int size = 0;
-        private int rows = 0;
-        int chosen = NONE;
-        int chosenJoy = 0;
-
-        // All rows of l, rising, each with its joy: every vow is tried on the same rows.
-        void layOut(int l, int[] worths) {
-            size = l;
-            rows = 1 << 3 * l;
-            for (int row = 0; row < rows; row++) {
-                int joy = 0;
-                for (int i = 0; i < size; i++) {
-                    int deed = row >> 3 * (size - 1 - i) & 7;
-                    joy += worths[Search.worthAt(i, doneAhead(row, i, deed), deed)];
-                    deeds[row * size + i] = deed;
-                }
-                joys[row] = within(joy, MOST_JOY);
-            }
-        }
-
-        private int doneAhead(int row, int place, int deed) {
-            int ahead = 0;
-            for (int i = 0; i < place; i++) {
-                if (deeds[row * size + i] == deed) {
-                    ahead++;
-                }
-            }
-            return ahead;
-        }
-
-        // False: there is none.
-        boolean choose(int deed) {
-            chosen = NONE;
-            for (int kind = 0; kind <= LAST_PLAIN_KIND; kind++) {
-                for (int a = 0; a < DEEDS; a++) {
-                    for (int b = 0; b <= lastB(kind); b++) {
-                        for (int n = 0; n <= lastN(kind); n++) {
-                            weighVow(1000 * kind + 100 * a + 10 * b + n, deed);
-                        }
-                    }
-                }
-            }
-            return chosen != NONE;
-        }
-
-        private void weighVow(int number, int deed) {
-            putVow(vow, 0, number);
-            int row = bestKept();
-            if (row != NONE && doneAhead(row, size, deed) == 0 && (chosen == NONE || joys[row] > chosenJoy)) {
-                chosen = number;
-                chosenJoy = joys[row];
-            }
-        }
-
-        private int bestKept() {
-            int best = NONE;
-            for (int row = 0; row < rows; row++) {
-                if ((best == NONE || joys[row] > joys[best])
-                        && placeBroken(vow, 0, deeds, row * size, size) == NONE) {
-                    best = row;
-                }
-            }
-            return best;
         }
     }
 }
