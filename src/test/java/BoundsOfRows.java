@@ -59,6 +59,28 @@ public final class BoundsOfRows {
         }
     }
 
+    /** Each kind by rows of one place and of two: what stands first, what stands last. */
+    private static void kinds() {
+        int[][] due = {{0, 7, 49}, {1000, 8, 64}, {1001, 1, 15}, {1002, 0, 1}, {1003, 0, 0}, {2010, 7, 50}, {2000, 8, 64},
+            {3010, 7, 50}, {3000, 7, 49}, {4000, 7, 49}, {4001, 8, 63}, {4002, 8, 64}, {5010, 8, 63}, {5000, 8, 63}};
+        for (int[] d : due) {
+            SwornDays x = Check.country("p:a");
+            x.swear(0, d[0], 1);
+            Check.due("rows of 1 under " + d[0], x.can(0, 1, -1), d[1]);
+            Check.due("rows of 2 under " + d[0], x.can(0, 2, -1), d[2]);
+        }
+        SwornDays x = Check.country("p:a");
+        x.swear(0, 5010, 1);
+        Check.due("no a behind b", x.can(0, 2, 8), 11);
+        x.undo();
+        x.swear(0, 3010, 1);
+        Check.due("ab, and none else with a", x.can(0, 2, 0), 1);
+        Check.due("bb behind it", x.can(0, 2, 1), 11);
+        x.undo();
+        x.swear(0, 2010, 1);
+        Check.due("ba, and none else with a", x.can(0, 2, 0), 10);
+    }
+
     /** Vows out of force, of kinds 6 and 7, and of others do not bind. */
     private static void whoseVows() {
         SwornDays x = Check.country("p:a;p:b;va0t1;vp1a1;vk6a0;vk7a0;vk7a4");
@@ -143,6 +165,8 @@ public final class BoundsOfRows {
         Check.due("r", tasted("p:a", "y:r=11?1", times(12, "a")).joy(0, 0), 1);
         Check.due("r", tasted("p:a", "y:r>10?1", times(6, "ab")).joy(0, 0), 0);
         Check.due("r", tasted("p:a", "y:r>4?1", times(6, "ab")).joy(0, 0), 2);
+        Check.due("j", tasted("p:a;da1j9h7", "y:j", "ab").joy(0, 0), 10);
+        Check.due("h", tasted("p:a;da1j9h7", "y:h", "ab").joy(0, 0), 7);
         Check.due("i", tasted("p:a", "y:i", times(12, "a")).joy(0, 0), 66);
         Check.due("x", tasted("p:a", "y:x", "abcdefgh").joy(0, 0), 28);
         SwornDays five = tasted("p:a;p:a;p:a;p:a;p:a", "y:q", "a");
@@ -443,6 +467,14 @@ public final class BoundsOfRows {
         }
         Check.due("of two alike the lower", lowest, 2);
         Check.due("tempting", y.tempting(0), 2);
+        // 123 of 240 are as near to the half as 117 are, from the other side.
+        for (int first = 0; first < 2; first++) {
+            String[] rows = {"abcdefghcaeb", "abcdefghabcd"};
+            SwornDays even = Check.country("p:a", rows[first], rows[1 - first]);
+            Check.due("more than the half are broken", even.tells(0, first), 123);
+            Check.due("less than the half are broken", even.tells(0, 1 - first), 117);
+            Check.due("as near: the lowest", even.tempting(0), 0);
+        }
         SwornDays z = Check.country("p:a", "a", "b", "c");
         Check.due("all are as near: the lowest", z.tempting(0), 0);
         z.see(0, 0);
@@ -512,6 +544,7 @@ public final class BoundsOfRows {
 
     public static void main(String[] args) {
         can();
+        kinds();
         whoseVows();
         strike();
         together();

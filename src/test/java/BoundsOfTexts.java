@@ -478,6 +478,14 @@ public final class BoundsOfTexts {
         worthDue("y:4<4?5;y:4>4?6;y:7", 7);
         worthDue("y:3<4?5;y:7", 5);
         worthDue("y:4>3?5;y:7", 5);
+        // & binds more than |, ! binds the one unit behind it.
+        worthDue("y:1=1|1=1&1=2?5;y:7", 5);
+        worthDue("y:(1=1|1=1)&1=2?5;y:7", 7);
+        worthDue("y:!1=2&1=2?5;y:7", 7);
+        worthDue("y:!(1=2&1=2)?5;y:7", 5);
+        worthDue("y:!1=1|1=1?5;y:7", 5);
+        worthDue("y:!!!!!!1=1?5;y:7", 5);
+        worthDue("y:!!!!!1=1?5;y:7", 7);
     }
 
     // ---- text
