@@ -600,6 +600,25 @@ public final class BoundsOfDays {
         }
         Check.due("undo", y.undo(), NONE);
         Check.due("term", y.vow(0, 5), 38);
+        // Each sort of act on top of forty.
+        SwornDays w = Check.country("p:b;v;v", "c");
+        w.days(40);
+        Check.due("lives", w.lives(0, 0), 40);
+        Check.due("change", w.change(0, 0, 3), 40);
+        w.swear(0, 0, 1);
+        Check.due("swear", w.count(11), 40);
+        w.pardon(2);
+        Check.due("pardon", w.count(11), 40);
+        w.amnesty();
+        Check.due("amnesty", w.count(11), 40);
+        w.decades(1, 3);
+        Check.due("decades", w.count(11), 40);
+        for (int i = 39; i >= 0; i--) {
+            Check.due("undo", w.undo(), i);
+        }
+        Check.due("undo", w.undo(), NONE);
+        Check.due("six acts and 34 days are undone", w.count(7), 6);
+        Check.due("the row", w.person(0, 3), 1);
         // Undone and done anew: what was undone does not come back.
         SwornDays z = Check.country("p:a");
         z.change(0, 0, 1);
