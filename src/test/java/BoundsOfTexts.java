@@ -206,6 +206,17 @@ public final class BoundsOfTexts {
                 }
             }
         }
+        for (int value = 0; value <= 99; value++) {
+            String two = "" + value / 10 + value % 10;
+            for (String number : value < 10 ? new String[] {"" + value, two} : new String[] {two}) {
+                String other = value == 0 ? "1" : "0";
+                int last = number.length() - 1;
+                Check.faultDue(0, "eo" + other + "p" + number + five, value <= 4 ? NONE : 4 + last);
+                Check.faultDue(0, "ep" + other + "o" + number + five, value <= 4 ? NONE : 4 + last);
+            }
+            Check.faultDue(0, "ep" + two + value % 10 + five, 4);
+            Check.faultDue(0, "eo" + two + value % 10 + five, 4);
+        }
         Check.faultDue(0, "ep5o0" + five, 2);
         Check.faultDue(0, "ep05o0" + five, 3);
         Check.faultDue(0, "ep10o0" + five, 3);
